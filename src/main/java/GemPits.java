@@ -821,6 +821,7 @@ public final class GemPits {
     /** The stones, and where their prices went. */
     private static final class Market {
         private final ArrayList<Stone> stones = new ArrayList<>();
+        /** What each had of all sales; costs that are had back are no longer in costs. */
         private final int[] had = new int[SHARES];
         private Agreement agreement = new Agreement();
         private int costs = 0;
@@ -865,7 +866,7 @@ public final class GemPits {
             stone.buyer = buyer;
             stone.price = stone.hands[buyer];
             agreement.partPrice(stone.price, costs, had[LENDER], stone.shares);
-            for (int who = 0; who < SHARES; who++) {
+            for (int who = LAND; who < SHARES; who++) {
                 had[who] += stone.shares[who];
             }
             costs -= stone.shares[COSTS];

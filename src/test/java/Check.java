@@ -27,11 +27,19 @@ final class Check {
             wrong++;
             System.out.println(what + ": answered " + got + ", due is " + due.getSimpleName());
         } catch (RuntimeException e) {
-            if (e.getClass() != due) {
+            if (e.getClass() != due || !isThrownByTheClass(e)) {
                 wrong++;
                 System.out.println(what + ": threw " + e + ", due is " + due.getSimpleName());
             }
         }
+    }
+
+    /** Whether a throw of the class made the exception, not the machine or the library. */
+    static boolean isThrownByTheClass(RuntimeException e) {
+        StackTraceElement[] calls = e.getStackTrace();
+        return calls.length > 0 && calls[0].getClassName().startsWith("GemPits") && e.getMessage() != null
+                && e.getClass() != ArrayIndexOutOfBoundsException.class
+                && e.getClass() != NullPointerException.class;
     }
 
     static void close() {

@@ -95,6 +95,7 @@ public final class GroundTest {
         Check.same("24: without a span", x.count(14), countNone(x));
         Check.same("24: some have none", x.count(14) > 0, true);
         x.step(27);
+        Check.same("4: the first pit counts in a new step", x.span(2, true), 64);
         Check.same("12: at last one amount", x.span(3, false), 90);
         Check.same("12: 10 + 27 to 90 - 54", x.span(1, false), 36);
         Check.same("12: 10 + 27 to 90 - 54, most", x.span(1, true), 37);

@@ -28,7 +28,13 @@ public final class RoughTest {
         x.flaw(9, 7, true);
         x.rough(10, 8);
         Check.same("20: without flaws", x.most(), 6400);
+        Check.same("20: the first cell had none", x.flaw(0, 0, true), true);
+        x.rough(10, 8);
+        Check.same("20: nor has it now", x.flaw(0, 0, false), false);
+        x.flaw(0, 0, true);
+        Check.same("22: weighed with a flaw", x.most() < 6400, true);
         x.rough(2, 3);
+        Check.same("23: cuts ahead of most", x.cuts(), 0);
         Check.same("20: smaller", x.most(), 36);
         Check.fails("21: x is too great", NO_SUCH, () -> x.flaw(2, 0, true) ? 1 : 0);
         Check.fails("21: y is too great", NO_SUCH, () -> x.flaw(0, 3, true) ? 1 : 0);

@@ -80,6 +80,15 @@ public final class TextTest {
         Check.same("5: the later one counts", x.look(2, 5), 4);
         Check.same("5: apart 11", TapeText.law(x, "apart 11"), 1);
         Check.same("5: all is near", x.sink(11), -1);
+        Check.same("5: bond 0", TapeText.law(x, "bond 0"), 1);
+        Check.same("5: apart stays", x.sink(24), -1);
+        Check.same("5: apart 0", TapeText.law(x, "apart 0"), 1);
+        Check.same("5: fill stays", x.look(x.sink(24), 5), 4);
+        TapeText.law(x, "bond 9");
+        TapeText.law(x, "fill 1");
+        int held = x.count(11);
+        x.sink(25);
+        Check.same("5: bond stays", x.count(11), held + 9);
     }
 
     private static void wrongLaws() {
@@ -99,6 +108,10 @@ public final class TextTest {
         wrongLaw("bond ;", 5);
         wrongLaw("bonds 1", 0);
         wrongLaw("bon 1", 0);
+        wrongLaw("bondz 1", 0);
+        wrongLaw("abond 1", 0);
+        wrongLaw("nond 1", 0);
+        wrongLaw("bonb 1", 0);
         wrongLaw("bo nd 1", 0);
         wrongLaw("Bond 1", 0);
         wrongLaw("  5", 2);
@@ -134,7 +147,8 @@ public final class TextTest {
         Check.same("6: without blanks", TapeText.agreement(x, "lender3until4;land97"), 2);
         Check.same("6: a hundred together", TapeText.agreement(x, "land 60;land 20;pump 80"), 3);
         Check.same("6: the greatest until", TapeText.agreement(x, " lender 100 until 999999 "), 1);
-        Check.same("6: no hundredths", TapeText.agreement(x, "diggers 0"), 1);
+        Check.same("6: no hundredths", TapeText.agreement(x,
+                "land 0;licence 0;lender 0 until 0;diggers 0;pump 0"), 5);
         Check.same("7: right", x.fault(), -1);
     }
 
