@@ -821,7 +821,7 @@ public final class GemPits {
     /** The stones, and where their prices went. */
     private static final class Market {
         private final ArrayList<Stone> stones = new ArrayList<>();
-        /** What each had of all sales; costs that are had back are no longer in costs. */
+        /** What land, licence, lender, diggers and pump had of all sales. */
         private final int[] had = new int[SHARES];
         private Agreement agreement = new Agreement();
         private int costs = 0;
