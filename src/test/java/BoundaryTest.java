@@ -1,3 +1,6 @@
+import java.io.IOException;
+import java.nio.file.Files;
+import java.nio.file.Path;
 import java.util.NoSuchElementException;
 
 /** Each sentence of the document that names a boundary case, in its own words and in its order, on both sides. */
@@ -10,8 +13,10 @@ public final class BoundaryTest {
 
     /** The sentence that the checks behind it belong to. */
     private static String sentence = "";
+    private static String document = "";
 
-    public static void main(String[] args) {
+    public static void main(String[] args) throws IOException {
+        document = Files.readString(Path.of("../shared/DOC.md"));
         squares();
         pits();
         gravel();
@@ -50,6 +55,7 @@ public final class BoundaryTest {
 
     private static void says(String words) {
         sentence = words;
+        Check.same("the document says: " + words, document.contains(words), true);
     }
 
     private static void same(String what, long got, long due) {
